@@ -384,12 +384,9 @@ public final class BellController {
         }
         listMovingBells();
         int most = 0;
+        // Where the most hammers move, they still do just before the first of their strokes.
         for (int step = 0; step < pattern.length; step++) {
-            for (int before = 1; before <= MAX_DELAY; before++) {
-                if ((pattern.steps[step] & movingBells[before]) != 0) {
-                    most = Math.max(most, strokesMoving(pattern, ticks, step * ticks - before));
-                }
-            }
+            most = Math.max(most, movingBefore(pattern, ticks, step));
         }
         return most;
     }
@@ -812,15 +809,11 @@ public final class BellController {
         }
     }
 
-    /** How many strokes of a pattern that is played from 0 on have moving hammers at a tick. */
-    private int strokesMoving(Pattern pattern, int ticks, int tick) {
-        if (ticks < 1) {
-            return 0;
-        }
+    /** How many strokes of a pattern have moving hammers at the tick before a step. */
+    private int movingBefore(Pattern pattern, int ticks, int first) {
         int moving = 0;
-        int first = Math.max(0, Math.floorDiv(tick, ticks) + 1);
         for (int step = first; step < pattern.length; step++) {
-            int before = step * ticks - tick;
+            int before = (step - first) * ticks + 1;
             if (before > MAX_DELAY) {
                 return moving;
             }
@@ -1045,7 +1038,10 @@ public final class BellController {
         /** Removes the strokes that sound at a time, and answers their bells as a bit set. */
         int takeSounding(int time) {
             int sounding = 0;
-            int commanded = rankOf(time);
+            int commanded = 0;
+            while (commanded < count && commands[commanded] < time) {
+                commanded++;
+            }
             for (int i = commanded - 1; i >= 0; i--) {
                 if (times[i] == time) {
                     sounding |= 1 << bells[i];

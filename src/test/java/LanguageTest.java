@@ -20,7 +20,7 @@ public final class LanguageTest {
     };
 
     /** All that is used of the library. */
-    private static final String LIBRARY = "(Math\\.(max|min|abs|floorDiv)|Integer\\.bitCount|System\\.arraycopy)\\(";
+    private static final String LIBRARY = "(Math\\.(max|min|abs)|Integer\\.bitCount|System\\.arraycopy)\\(";
 
     private static String withoutComments(String text) {
         return text.replaceAll("(?s)/\\*.*?\\*/", "").replaceAll("//[^\n]*", "").replaceAll("'[^']'", "0");

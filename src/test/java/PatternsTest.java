@@ -251,6 +251,8 @@ public final class PatternsTest {
         Check.due("scheduledCount()", x.scheduledCount(), 4);
         Check.load(x, 1, "-20");
         Check.due("rests", x.play(1, 100000, 200), 0);
+        Check.due("rests", x.play(1, 0, 1), 0);
+        Check.due("rests", x.weave(1, 0, 1, 0), 0);
         Check.due("scheduledCount()", x.scheduledCount(), 4);
     }
 

@@ -138,6 +138,12 @@ public final class ProgrammeTest {
         Check.due("entries in their order", x.commandTime(2), 50);
         Check.due("removeEntry(2)", x.removeEntry(2), 2);
         Check.due("failureCount()", x.failureCount(), 2);
+        Check.due("removeEntry(0)", x.removeEntry(0), 1);
+        for (int number = 1; number < 8; number++) {
+            Check.due("addEntry", x.addEntry(0, 1000, 0, 1, 0), number);
+            Check.due("a new entry", x.lastShift(number), Check.NONE);
+        }
+        Check.due("dueTime(0)", x.dueTime(0), 500);
     }
 
     private static void lastDueTime() {

@@ -156,6 +156,7 @@ public final class TowerTest {
         }
         x.scheduleStroke(0, 500);
         Check.due("alone, with a stroke", x.calmestWait(0, 1000), 0);
+        Check.due("calmestWait(0, 1)", x.calmestWait(0, 1), 0);
         x.cancelStroke(0, 500);
         x.startSwing(0, 1000);
         Check.due("calmestWait(0, 0)", x.calmestWait(0, 0), Check.BAD_VALUE);

@@ -46,6 +46,7 @@ public final class BellController {
 
     /** A stroke that is commanded so much earlier than another has no hold on it any more. */
     private static final int REACH = MAX_DELAY + MAX_RECOVERY;
+
     /** What an examined stroke gets that can be scheduled; every refusal is negative. */
     private static final int FREE = 0;
 

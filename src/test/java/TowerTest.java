@@ -163,6 +163,19 @@ public final class TowerTest {
         Check.due("calmestWait(0, 5)", x.calmestWait(0, 5), Check.SWINGING);
     }
 
+    /** Even between shakes of 1 and 0 the smaller one is chosen. */
+    private static void calmestOfSmallShakes() {
+        BellController x = new BellController();
+        x.addBell(1, 0, 1, 10);
+        x.addBell(1, 0, 1, 10);
+        x.startSwing(0, 100);
+        x.advance(20);
+        x.stopMotor(0);
+        Check.due("shake(0)", x.shake(0), 100001);
+        Check.due("shake(1)", x.shake(1), 100000);
+        Check.due("calmestWait(1, 1)", x.calmestWait(1, 1), 1);
+    }
+
     public static void main(String[] args) {
         force();
         strongest();
@@ -170,6 +183,7 @@ public final class TowerTest {
         limit();
         calmestWait();
         calmestErrors();
+        calmestOfSmallShakes();
         Check.end();
     }
 }

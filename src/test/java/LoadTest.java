@@ -32,7 +32,7 @@ public final class LoadTest {
         BellController x = manyBells();
         Check.load(x, 0, "((abcdefghijkl)10)2");
         Check.load(x, 1, "((abcdefghijkl)10)10");
-        for (int round = 0; round < 49; round++) {
+        for (int round = 0; round < 28; round++) {
             for (int entry = 0; entry < 8; entry++) {
                 x.addEntry(entry == 0 ? 0 : 1, 0, 200, 5, 500);
             }
@@ -41,7 +41,7 @@ public final class LoadTest {
                 x.removeEntry(0);
             }
         }
-        Check.due("currentTime()", x.currentTime(), 98000);
+        Check.due("currentTime()", x.currentTime(), 56000);
         Check.due("entryCount()", x.entryCount(), 0);
     }
 

@@ -1,8 +1,4 @@
-import java.lang.reflect.Method;
-import java.util.ArrayList;
-import java.util.Arrays;
 import java.util.HashMap;
-import java.util.List;
 import java.util.Map;
 import java.util.Random;
 
@@ -10,6 +6,8 @@ import java.util.Random;
 public final class ModelTest {
     private static final int RUNS = 420;
     private static final int CALLS = 512;
+    /** A text of 300 bytes, and the call that reads it. */
+    private static final int CALLS_OF_TEXT = 16;
 
     /** A method, the kinds of its arguments, and how often it comes in each of the styles of a run. */
     private static final String[][] METHODS = {
@@ -66,26 +64,14 @@ public final class ModelTest {
     private final Random random;
     private final int run;
     private final int style;
-    private final BellController controller = new BellController();
-    private final PlainModel model = new PlainModel();
-    private static final Map<String, Method> OF_CONTROLLER = methodsOf(BellController.class);
-    private static final Map<String, Method> OF_MODEL = methodsOf(PlainModel.class);
+    private final Pair pair = new Pair();
+    private final PlainModel model = pair.model();
     private static final Map<String, Map<Integer, Integer>> SEEN = new HashMap<>();
-    private final List<String> history = new ArrayList<>();
-    private boolean wrong = false;
 
     private ModelTest(int run) {
         this.run = run;
         this.random = new Random(run * 7919L);
         this.style = run % 5;
-    }
-
-    private static Map<String, Method> methodsOf(Class<?> type) {
-        Map<String, Method> methods = new HashMap<>();
-        for (Method method : type.getDeclaredMethods()) {
-            methods.put(method.getName(), method);
-        }
-        return methods;
     }
 
     private int below(int bound) {
@@ -151,37 +137,16 @@ public final class ModelTest {
     }
 
     private void call(String name, Object... arguments) {
-        Object got;
-        Object want;
-        try {
-            want = OF_MODEL.get(name).invoke(model, arguments);
-            got = OF_CONTROLLER.get(name).invoke(controller, arguments);
-        } catch (ReflectiveOperationException e) {
-            throw new IllegalStateException(name + Arrays.toString(arguments), e);
-        }
-        history.add(name + Arrays.toString(arguments) + " answered " + got);
-        int kind = (Integer) want < 0 ? (Integer) want : 0;
-        SEEN.computeIfAbsent(name, key -> new HashMap<>()).merge(kind, 1, Integer::sum);
-        if (!got.equals(want) && !wrong) {
-            wrong = true;
-            int first = Math.max(0, history.size() - 30);
-            System.out.println("run " + run + ", call " + history.size() + ": " + name
-                    + Arrays.toString(arguments) + " answered " + got + ", due is " + want);
-            history.subList(first, history.size()).forEach(line -> System.out.println("    " + line));
+        boolean before = pair.isWrong();
+        int want = pair.call(name, arguments);
+        SEEN.computeIfAbsent(name, key -> new HashMap<>()).merge(Math.min(want, 0), 1, Integer::sum);
+        if (pair.isWrong() && !before) {
+            System.out.println("run " + run + ", " + pair.story());
         }
     }
 
     private void loadText(int which, String text) {
-        for (int start = 0; start < text.length(); start += 20) {
-            Object[] words = new Object[5];
-            for (int word = 0; word < 5; word++) {
-                int bytes = 0;
-                for (int i = 0; i < 4; i++) {
-                    int at = start + word * 4 + i;
-                    bytes = bytes << 8 | (at < text.length() ? text.charAt(at) : ' ');
-                }
-                words[word] = bytes;
-            }
+        for (Object[] words : Pair.wordsOf(text)) {
             call("appendBytes", words);
         }
         call("loadPattern", which, text.length());
@@ -272,7 +237,7 @@ public final class ModelTest {
         for (String[] method : METHODS) {
             total += weightOf(method);
         }
-        while (history.size() < CALLS && !wrong) {
+        while (pair.calls() <= CALLS - CALLS_OF_TEXT && !pair.isWrong()) {
             int dice = below(total);
             int chosen = 0;
             for (; dice >= weightOf(METHODS[chosen]); chosen++) {
@@ -295,7 +260,7 @@ public final class ModelTest {
             }
             call(method[0], arguments);
         }
-        return !wrong;
+        return !pair.isWrong();
     }
 
     private int weightOf(String[] method) {

@@ -81,8 +81,10 @@ public final class StrokesTest {
     private static void full() {
         BellController x = Check.quickBells(2);
         for (int time = 10; time < 310; time++) {
-            Check.due("scheduledCount()", x.scheduledCount(), time - 10);
             Check.due("scheduleStroke", x.scheduleStroke(0, time), time - 1);
+            if (time % 10 == 0) {
+                Check.due("scheduledCount()", x.scheduledCount(), time - 9);
+            }
         }
         Check.due("scheduleStroke(1, 5)", x.scheduleStroke(1, 5), Check.FULL);
         Check.due("a clash when full", x.scheduleStroke(0, 50), Check.FULL);

@@ -2,7 +2,11 @@ import java.io.IOException;
 import java.nio.file.Files;
 import java.nio.file.Path;
 import java.util.ArrayList;
+import java.util.HashMap;
+import java.util.LinkedHashSet;
 import java.util.List;
+import java.util.Map;
+import java.util.Set;
 import java.util.regex.Matcher;
 import java.util.regex.Pattern;
 
@@ -42,20 +46,57 @@ public final class LanguageTest {
         Check.holds("all signs are 1 to 127", text.chars().allMatch(sign -> sign > 0 && sign < 128));
     }
 
-    /** Methods of some sixty lines with at most seven parameters. */
-    private static void methods(String code) {
-        Pattern head = Pattern.compile("(?m)^( +)(public|private|static|boolean|int|void)[^;={}]*\\(([^)]*)\\) \\{$");
-        Matcher heads = head.matcher(code);
-        List<Integer> lengths = new ArrayList<>();
+    private static final Pattern HEAD = Pattern.compile(
+            "(?m)^( +)(public|private|static|boolean|int|void)[^;={}(]*?(\\w+)\\(([^)]*)\\) \\{$");
+
+    /** Methods of some sixty lines with at most seven parameters, which make nothing; the names that each calls. */
+    private static Map<String, Set<String>> methods(String code) {
+        Map<String, Set<String>> calls = new HashMap<>();
+        Matcher heads = HEAD.matcher(code);
         while (heads.find()) {
             String rest = code.substring(heads.start());
-            int end = rest.indexOf("\n" + heads.group(1) + "}\n");
-            int lines = (int) rest.substring(0, end).lines().count();
-            lengths.add(lines);
-            Check.holds("a short method: " + heads.group().trim(), lines <= 60);
-            Check.holds("few parameters: " + heads.group().trim(), heads.group(3).split(",").length <= 7);
+            String method = rest.substring(0, rest.indexOf("\n" + heads.group(1) + "}\n"));
+            String name = heads.group(3);
+            Check.holds("a short method: " + name, method.lines().count() <= 60);
+            Check.holds("few parameters: " + name, heads.group(4).split(",").length <= 7);
+            Check.holds("only the constructor makes objects: " + name,
+                    name.equals("BellController") || !Pattern.compile("\\bnew\\b").matcher(method).find());
+            String body = method.substring(heads.group().length());
+            calls.computeIfAbsent(name, key -> new LinkedHashSet<>()).addAll(called(body));
         }
-        Check.holds("the methods are found", lengths.size() > 60);
+        Check.holds("the methods are found", calls.size() > 60);
+        return calls;
+    }
+
+    private static Set<String> called(String body) {
+        Set<String> names = new LinkedHashSet<>();
+        Matcher call = Pattern.compile("\\b(\\w+)\\(").matcher(body);
+        while (call.find()) {
+            names.add(call.group(1));
+        }
+        return names;
+    }
+
+    /** The longest chain of calls below a name, the library's included; one of more than 20 has no end. */
+    private static List<String> chain(Map<String, Set<String>> calls, String name, int level) {
+        List<String> longest = List.of();
+        for (String next : level > 20 ? Set.<String>of() : calls.getOrDefault(name, Set.of())) {
+            List<String> below = chain(calls, next, level + 1);
+            longest = below.size() > longest.size() ? below : longest;
+        }
+        List<String> whole = new ArrayList<>(List.of(name));
+        whole.addAll(longest);
+        return whole;
+    }
+
+    private static void depth(Map<String, Set<String>> calls) {
+        int deepest = 0;
+        for (String name : calls.keySet()) {
+            List<String> chain = chain(calls, name, 1);
+            Check.holds("calls go at most eight deep: " + chain, chain.size() <= 8);
+            deepest = Math.max(deepest, chain.size());
+        }
+        Check.holds("the calls are found", deepest > 4);
     }
 
     private static void classes(String code) {
@@ -73,7 +114,7 @@ public final class LanguageTest {
         String code = withoutComments(text);
         signs(text);
         words(code);
-        methods(code);
+        depth(methods(code));
         classes(code);
         Check.end();
     }
